@@ -1138,16 +1138,23 @@ public final class SailLoft {
         // From the largest set down, so that what is left of a set was packed without this bolt.
         void offer(Bolt bolt) {
             for (int set = Math.min(sets, SETS) - 1; set > 0; set--) {
-                if (needed[set] > 1) {
+                if (fits(bolt, set)) {
+                    needed[set] = 1;
+                } else if (needed[set] > 2) {
+                    // What needs two bolts could be bettered only by one that takes all of it.
                     betterBy(bolt, set);
                 }
             }
         }
 
+        private boolean fits(Bolt bolt, int set) {
+            return lengths[set] <= bolt.length && breadths[set] <= bolt.width;
+        }
+
         private void betterBy(Bolt bolt, int set) {
             int best = needed[set];
             for (int part = set; part > 0; part = (part - 1) & set) {
-                if (lengths[part] <= bolt.length && breadths[part] <= bolt.width) {
+                if (fits(bolt, part)) {
                     best = Math.min(best, needed[set - part] + 1);
                 }
             }

@@ -199,6 +199,10 @@ public final class PromiseTests {
         x.cut(0, 5, 1);
         due(x.stand(0, 1, 2, 1), false);
         due(x.at(0, 1, 2), 100);
+        x.sail(0, 300, 0, 300, 4);
+        x.edge(1, 0, 1);
+        due(x.stand(1, 0, 0, -9), true);
+        due(x.at(1, 0, 0), -9);
     }
 
     private static void at() {
@@ -254,6 +258,12 @@ public final class PromiseTests {
         due(x.cut(4, 5, 1), 1);
         due(x.panel(4, 0, 3), 10);
         due(x.panel(4, 0, 5), 20 + 11 + 11);
+        x.sail(0, 10, 10, 10, 3);
+        due(x.cut(5, 5, 1), -1);
+        x.sail(10, 10, 0, 10, 3);
+        due(x.cut(6, 5, 1), -1);
+        x.sail(3, 10, 12, 13, 3);
+        due(x.cut(7, 5, 1), 1);
     }
 
     private static void narrow() {
@@ -369,8 +379,32 @@ public final class PromiseTests {
         due(x.panel(0, 2, 6), 0);
         due(x.panel(0, 2, 7), 7);
         due(x.panel(0, 2, 8), 12000);
+        slants();
         weights();
         oldKinds();
+    }
+
+    /** The edges are 4, 3, 2, 1, 0 at the left and 6, 7, 8, 9, 10 at the right: breadths 2, 4, 6, 8, 10. */
+    private static void slants() {
+        SailLoft x = new SailLoft();
+        x.sail(4, 6, 0, 10, 4);
+        x.cut(0, 4, 2);
+        due(x.panel(0, 0, 3), 6);
+        due(x.panel(0, 0, 5), 2 + 4 + 4 + 6);
+        due(x.panel(0, 1, 3), 10);
+        due(x.panel(0, 1, 5), 6 + 8 + 8 + 10);
+        due(x.told(0, 3), 48);
+        x.sail(10, 100, 10, 100, 4);
+        x.edge(1, 0, 4);
+        x.edge(1, 1, 5);
+        x.stand(1, 0, 3, -30);
+        x.stand(1, 1, 1, -50);
+        x.stand(1, 1, 4, 7);
+        x.cut(1, 4, 2);
+        due(x.panel(1, 0, 3), 90);
+        due(x.panel(1, 0, 5), 90 + 40 + 40 + 90);
+        due(x.panel(1, 1, 3), 127);
+        due(x.panel(1, 1, 5), 90 + 120 + 120 + 97);
     }
 
     private static void weights() {
@@ -545,6 +579,15 @@ public final class PromiseTests {
         due(x.left(1), 30);
         due(x.plan(50), 2);
         due(x.panel(0, 0, 7), 0);
+        x = square(12);
+        x.bolt(5, 10, ONE);
+        x.bolt(5, 25, ONE);
+        due(x.lay(0, 2, 1, 5, 0), true);
+        due(x.plan(0), -1);
+        due(x.panel(0, 0, 6), 0);
+        due(x.panel(0, 1, 6), 1);
+        due(x.panel(0, 1, 7), 15);
+        due(x.left(0), 0);
     }
 
     private static void fewest() {
@@ -630,6 +673,8 @@ public final class PromiseTests {
         due(x.wind(59, 1000), true);
         due(x.wind(0, 1), true);
         due(x.push(0), 20);
+        due(x.wind(0, 0), true);
+        due(x.push(0), 0);
         due(x.count(2), 3);
     }
 
@@ -658,6 +703,8 @@ public final class PromiseTests {
         due(x.told(0, 4), 8);
         due(x.reef(0, 3), true);
         due(x.told(0, 4), 3);
+        due(x.reef(0, 0), true);
+        due(x.told(0, 4), 0);
     }
 
     private static void line() {
@@ -904,6 +951,9 @@ public final class PromiseTests {
         x.undo();
         due(x.count(0), 0);
         due(x.undo(), false);
+        due(x.left(0), -1);
+        due(x.worn(0, 0), -1);
+        due(x.at(0, 0, 0), -10000);
         due(x.bolt(5, 20, 0), 0);
         due(x.wear(0, 0, 0), false);
     }
