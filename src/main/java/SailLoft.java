@@ -411,7 +411,7 @@ public final class SailLoft {
         int taken = 0;
         for (int round = 0; round < MOST_LINES; round++) {
             for (int n = 0; n < sailCount; n++) {
-                Sail s = sails[n];
+                Sail s = sailNumbered(n);
                 if (s != null && s.isSet && spar.reefOnce(s)) {
                     taken++;
                     if (spar.firstBreak() == NONE) {
@@ -701,7 +701,7 @@ public final class SailLoft {
     private void hoistAll() {
         spar.clear();
         for (int n = 0; n < sailCount; n++) {
-            Sail s = sails[n];
+            Sail s = sailNumbered(n);
             if (s != null && s.isSet) {
                 spar.hoist(s);
             }

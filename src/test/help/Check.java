@@ -208,7 +208,7 @@ class Check {
         return List.of(wears, sets, plan, breaks());
     }
 
-    /** A sail that stands over the whole mast, and wind at one strip after the other. */
+    /** The most wind at one strip after the other: the first height that breaks tells of the loads. */
     private static List<Ask> breaks() {
         List<Ask> asks = new ArrayList<>();
         for (int y = 0; y < 60; y++) {

@@ -200,6 +200,19 @@ public final class ActBoundaries extends Check {
         due("the reef stays", x.told(0, 4), 4);
     }
 
+    /** An object is used for at most 512 calls: the last of them answers as any other. */
+    private static void lastCall() {
+        SailLoft x = made(Lofts.onePanel(19));
+        for (int n = 3; n <= 494; n++) {
+            x.reef(0, n % 19 + 1);
+        }
+        for (int n = 495; n <= 510; n++) {
+            due("undo, call " + n, x.undo(), true);
+        }
+        due("call 511", x.undo(), false);
+        due("call 512", x.told(0, 4), (494 - 16) % 19 + 1);
+    }
+
     private static void undoIsNoAct() {
         SailLoft x = made(Lofts::few);
         for (int n = 14; n >= 0; n--) {
@@ -274,6 +287,7 @@ public final class ActBoundaries extends Check {
         undoOfNone();
         sixteen();
         ring();
+        lastCall();
         undoIsNoAct();
         undoOfCovered();
         count();

@@ -53,7 +53,7 @@ public final class BoltBoundaries extends Check {
         answers("new, bears", Lofts::empty, x -> x.bears(), -1);
         answers("new, least", Lofts::empty, x -> x.least(), 0);
         // At first every LOAD is 2,000,000,000: nothing that can be SET breaks it.
-        Check.Scene storm = x -> {
+        Scene storm = x -> {
             for (int s = 0; s < 10; s++) {
                 x.sail(-500, 500, -500, 500, 60);
                 x.cut(s, 20, 1);
@@ -131,7 +131,7 @@ public final class BoltBoundaries extends Check {
 
     private static void lengthOfBolt() {
         for (int length : new int[] {1, 2, 199, 200}) {
-            Check.Scene scene = x -> x.bolt(2, length, ONE);
+            Scene scene = x -> x.bolt(2, length, ONE);
             answers("left of " + length, scene, x -> x.left(0), length);
             answers("the last place of " + length, scene, x -> x.worn(0, length - 1), 0);
             answers("no place behind the last of " + length, scene, x -> x.worn(0, length), -1);
@@ -150,7 +150,7 @@ public final class BoltBoundaries extends Check {
         due("the 24th again", x.bolt(20, 200, 0), 23);
         due("its length", x.left(23), 200);
         due("full again", x.bolt(2, 5, ONE), -1);
-        Check.Scene taken = y -> {
+        Scene taken = y -> {
             y.sail(0, 5, 0, 5, 1);
             y.cut(0, 2, 1);
             for (int n = 0; n < 23; n++) {
@@ -198,7 +198,7 @@ public final class BoltBoundaries extends Check {
     }
 
     private static void rowWithOnePlaceCovered() {
-        Check.Scene patched = x -> {
+        Scene patched = x -> {
             Lofts.onePanel(1).make(x);
             x.patch(0, 0, 1, 1);
             x.bolt(2, 200, ONE);
@@ -307,7 +307,7 @@ public final class BoltBoundaries extends Check {
         due("old when its taking is undone", x.old(3), -1);
         x.bolt(2, 1, ONE);
         due("old of a new bolt in its stead", x.old(3), -1);
-        Check.Scene first = y -> {
+        Scene first = y -> {
             y.bolt(2, 10, ONE);
             Lofts.onePanel(1).make(y);
             y.lay(0, 0, 0, 0, 0);

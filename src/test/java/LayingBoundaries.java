@@ -24,9 +24,9 @@ public final class LayingBoundaries extends Check {
     private static void breadths() {
         refused("lay a breadth of 5 on a width of 4", Lofts::mixed, x -> bit(x.lay(0, 1, 2, 10, 0)), 0);
         for (int breadth : new int[] {1, 2, 3, 19, 20}) {
-            Check.Scene patched = both(Lofts.onePanel(1), x -> x.patch(0, 0, breadth, 5));
+            Scene patched = both(Lofts.onePanel(1), x -> x.patch(0, 0, breadth, 5));
             for (int width : new int[] {2, 3, 18, 19, 20}) {
-                Check.Scene scene = both(patched, x -> x.bolt(width, 5, ONE));
+                Scene scene = both(patched, x -> x.bolt(width, 5, ONE));
                 String name = "lay a breadth of " + breadth + " on " + width;
                 if (breadth <= width) {
                     answers(name, scene, x -> bit(x.lay(0, 1, 0, 0, 0)), 1);
@@ -38,7 +38,7 @@ public final class LayingBoundaries extends Check {
     }
 
     private static void lengths() {
-        Check.Scene panel = Lofts.onePanel(4);
+        Scene panel = Lofts.onePanel(4);
         answers("lay on a bolt as long as it is", both(panel, x -> x.bolt(5, 10, ONE)),
                 x -> bit(x.lay(0, 0, 0, 0, 0)), 1);
         refused("lay on one a place longer", both(panel, x -> x.bolt(5, 10, ONE)),
@@ -52,7 +52,7 @@ public final class LayingBoundaries extends Check {
             x.cut(0, 2, 1);
             x.bolt(2, 200, ONE);
         }, x -> bit(x.lay(0, 0, 0, 0, 0)), 1);
-        Check.Scene longest = x -> {
+        Scene longest = x -> {
             x.sail(0, 201, 0, 201, 1);
             x.cut(0, 2, 1);
             x.bolt(2, 200, ONE);
@@ -66,19 +66,19 @@ public final class LayingBoundaries extends Check {
 
     /** Panel 0 lies from 10 to 19. */
     private static void beside() {
-        Check.Scene laid = both(Lofts.square(12), x -> {
+        Scene laid = both(Lofts.square(12), x -> {
             x.bolt(5, 30, ONE);
             x.lay(0, 0, 0, 10, 0);
         });
         answers("lay right ahead of it", laid, x -> bit(x.lay(0, 1, 0, 0, 0)), 1);
         answers("lay right behind it", laid, x -> bit(x.lay(0, 1, 0, 20, 0)), 1);
         refused("lay over it", laid, (x, v) -> bit(x.lay(0, 1, 0, v, 100)), 0, 1, 9, 10, 11, 19);
-        Check.Scene patched = both(laid, x -> x.patch(0, 0, 1, 1));
+        Scene patched = both(laid, x -> x.patch(0, 0, 1, 1));
         answers("lay one place ahead of it", patched, x -> bit(x.lay(0, 3, 0, 9, 0)), 1);
         answers("lay one place behind it", patched, x -> bit(x.lay(0, 3, 0, 20, 0)), 1);
         refused("lay one place on it", patched, (x, v) -> bit(x.lay(0, 3, 0, v, 0)), 0, 10, 15, 19);
         answers("lay where it was", both(laid, x -> x.lift(0, 0)), x -> bit(x.lay(0, 1, 0, 10, 0)), 1);
-        Check.Scene other = both(laid, x -> {
+        Scene other = both(laid, x -> {
             x.sail(0, 10, 0, 10, 4);
             x.cut(1, 5, 1);
         });
@@ -95,7 +95,7 @@ public final class LayingBoundaries extends Check {
 
     /** Place 12 of bolt 0 is worn 40; a panel is 10 long. */
     private static void wornPlaces() {
-        Check.Scene worn = both(Lofts.onePanel(4), x -> {
+        Scene worn = both(Lofts.onePanel(4), x -> {
             x.bolt(5, 30, ONE);
             x.row(0, 20);
             x.wear(0, 12, 40);
@@ -109,7 +109,7 @@ public final class LayingBoundaries extends Check {
         answers("lay right ahead of the worn place", worn, x -> bit(x.lay(0, 0, 0, 2, 0)), 1);
         answers("lay right behind the worn place", worn, x -> bit(x.lay(0, 0, 0, 13, 39)), 1);
         answers("lay where the ROW has ended", worn, x -> bit(x.lay(0, 0, 0, 20, 0)), 1);
-        Check.Scene most = both(worn, x -> x.wear(0, 12, 100));
+        Scene most = both(worn, x -> x.wear(0, 12, 100));
         answers("worn 100, 100 at most", most, x -> bit(x.lay(0, 0, 0, 12, 100)), 1);
         refused("worn 100, 99 at most", most, x -> bit(x.lay(0, 0, 0, 12, 99)), 0);
         refused("worn 100, 101 at most", most, x -> bit(x.lay(0, 0, 0, 12, 101)), 0);
@@ -293,36 +293,36 @@ public final class LayingBoundaries extends Check {
     }
 
     private static void fewestWornEverywhere() {
-        Check.Scene worn = both(Lofts.onePanel(4), x -> {
+        Scene worn = both(Lofts.onePanel(4), x -> {
             x.bolt(5, 30, ONE);
             x.row(0, 30);
         });
         for (int place : new int[] {0, 15, 29}) {
-            Check.Scene scene = both(worn, x -> x.wear(0, place, 50));
+            Scene scene = both(worn, x -> x.wear(0, place, 50));
             answers("fewest, worn more at " + place, scene, x -> x.fewest(0, 49), -1);
             answers("fewest, worn as told at " + place, scene, x -> x.fewest(0, 50), 1);
             answers("fewest, worn less at " + place, scene, x -> x.fewest(0, 100), 1);
         }
         answers("fewest, worn 0", worn, x -> x.fewest(0, 0), 1);
-        Check.Scene most = both(worn, x -> x.wear(0, 29, 100));
+        Scene most = both(worn, x -> x.wear(0, 29, 100));
         answers("fewest, worn 100 and 99 told", most, x -> x.fewest(0, 99), -1);
         answers("fewest, worn 100 and 100 told", most, x -> x.fewest(0, 100), 1);
     }
 
     private static void fewestOfFreeBolts() {
-        Check.Scene patched = both(Lofts.onePanel(4), x -> {
+        Scene patched = both(Lofts.onePanel(4), x -> {
             x.bolt(5, 200, ONE);
             x.patch(0, 0, 1, 1);
             x.lay(0, 1, 0, 199, 0);
         });
         answers("fewest where something lies on the bolt", patched, x -> x.fewest(0, 100), -1);
         answers("fewest when it is lifted", both(patched, x -> x.lift(0, 1)), x -> x.fewest(0, 100), 1);
-        Check.Scene old = both(Lofts::mixed, x -> {
+        Scene old = both(Lofts::mixed, x -> {
             x.sail(0, 4, 0, 4, 3);
             x.cut(3, 4, 1);
         });
         answers("fewest on an old bolt", old, x -> x.fewest(3, 0), 1);
-        Check.Scene without = both(old, x -> {
+        Scene without = both(old, x -> {
             x.lay(0, 2, 3, 0, 0);
             x.lay(0, 1, 1, 10, 0);
         });
@@ -344,12 +344,20 @@ public final class LayingBoundaries extends Check {
             x.bolt(5, 19, ONE);
             x.bolt(5, 10, ONE);
         }), x -> x.fewest(0, 0), 2);
+        Scene three = both(Lofts.square(12), x -> {
+            for (int n = 0; n < 3; n++) {
+                x.bolt(5, 10, ONE);
+            }
+        });
+        answers("fewest, three on three", three, x -> x.fewest(0, 0), 3);
+        answers("fewest, three on two behind three", both(three, x -> x.bolt(5, 20, ONE)), x -> x.fewest(0, 0), 2);
+        answers("fewest, three on one behind three", both(three, x -> x.bolt(5, 30, ONE)), x -> x.fewest(0, 0), 1);
         answers("fewest, one takes all behind two that take one each", both(Lofts.square(8), x -> {
             x.bolt(5, 19, ONE);
             x.bolt(5, 10, ONE);
             x.bolt(5, 20, ONE);
         }), x -> x.fewest(0, 0), 1);
-        Check.Scene mixed = both(Lofts.onePanel(4), x -> {
+        Scene mixed = both(Lofts.onePanel(4), x -> {
             x.patch(0, 0, 1, 100);
             x.bolt(4, 100, ONE);
             x.bolt(5, 99, ONE);
@@ -358,9 +366,9 @@ public final class LayingBoundaries extends Check {
     }
 
     private static void fewestOfEight() {
-        Check.Scene eight = Lofts.square(32);
-        Check.Scene nine = Lofts.square(33);
-        Check.Scene bolt = x -> x.bolt(5, 200, ONE);
+        Scene eight = Lofts.square(32);
+        Scene nine = Lofts.square(33);
+        Scene bolt = x -> x.bolt(5, 200, ONE);
         answers("fewest of 8", both(eight, bolt), x -> x.fewest(0, 0), 1);
         refused("fewest of 9", both(nine, bolt), x -> x.fewest(0, 0), -1);
         answers("fewest of 9, one laid", both(both(nine, bolt), x -> {
@@ -372,7 +380,7 @@ public final class LayingBoundaries extends Check {
         answers("fewest of 40, all laid", both(both(Lofts::allPanels, bolt), x -> x.plan(0)), x -> x.fewest(0, 0), 0);
         for (int bolts = 7; bolts <= 9; bolts++) {
             int n = bolts;
-            Check.Scene small = both(eight, x -> {
+            Scene small = both(eight, x -> {
                 for (int b = 0; b < n; b++) {
                     x.bolt(5, 19, ONE);
                 }
@@ -385,14 +393,14 @@ public final class LayingBoundaries extends Check {
 
     /** Of 24 bolts the last two fit best; pieces of 7, 6, 5, 4, 4, 3, 3, 2 go on 17 and 17, and on nothing shorter. */
     private static void fewestOfMany() {
-        Check.Scene pieces = x -> {
+        Scene pieces = x -> {
             x.sail(0, 7, 0, 7, 1);
             x.cut(0, 2, 1);
             for (int length : new int[] {6, 5, 4, 4, 3, 3, 2}) {
                 x.patch(0, 0, 2, length);
             }
         };
-        Check.Scene bolts = both(pieces, x -> {
+        Scene bolts = both(pieces, x -> {
             for (int n = 0; n < 22; n++) {
                 x.bolt(2, 7, ONE);
             }
@@ -509,7 +517,7 @@ public final class LayingBoundaries extends Check {
     private static void fullOfTakenBolts() {
         for (int more = 19; more <= 22; more++) {
             int n = more;
-            Check.Scene scene = both(Lofts.square(12), x -> {
+            Scene scene = both(Lofts.square(12), x -> {
                 for (int b = 0; b < n; b++) {
                     x.bolt(5, 30, ONE);
                 }
@@ -523,12 +531,12 @@ public final class LayingBoundaries extends Check {
                 refused(name, scene, x -> x.take(0), -1);
             }
         }
-        Check.Scene most = both(Lofts::allPanels, x -> {
+        Scene most = both(Lofts::allPanels, x -> {
             x.bolt(2, 200, ONE);
             x.plan(0);
         });
         refused("take 40", most, x -> x.take(0), -1);
-        Check.Scene fits = x -> {
+        Scene fits = x -> {
             x.sail(0, 5, 0, 5, 23);
             x.cut(0, 2, 1);
             x.bolt(2, 200, ONE);

@@ -8,7 +8,7 @@ public final class MastBoundaries extends Check {
         x.set(0, true);
     }
 
-    private static Check.Scene windy(int push) {
+    private static Scene windy(int push) {
         return x -> {
             whole(x);
             for (int y = 0; y < 60; y++) {
@@ -141,7 +141,7 @@ public final class MastBoundaries extends Check {
                 }
             }, x -> x.line(0, 60), n < 4 ? n : -1);
         }
-        Check.Scene full = both(Lofts.square(8), x -> {
+        Scene full = both(Lofts.square(8), x -> {
             x.line(0, 1);
             x.line(0, 2);
             x.line(0, 3);
@@ -235,7 +235,7 @@ public final class MastBoundaries extends Check {
             }), x -> x.bears(), k);
         }
         // PUSH is one above four times the LOAD, and one below.
-        Check.Scene odd = x -> {
+        Scene odd = x -> {
             x.sail(0, 1, 0, 2, 1);
             x.cut(0, 2, 1);
             x.set(0, true);
@@ -255,7 +255,7 @@ public final class MastBoundaries extends Check {
         answers("least of the mixed loft", Lofts::mixed, x -> x.least(), -1);
         unchanged("least that is NONE", Lofts::mixed, x -> x.least());
         answers("least when nothing breaks", both(Lofts::mixed, x -> x.mast(3, 35)), x -> x.least(), 0);
-        Check.Scene lower = both(Lofts::mixed, x -> {
+        Scene lower = both(Lofts::mixed, x -> {
             x.mast(3, 1000);
             x.mast(1, 9);
         });
@@ -276,7 +276,7 @@ public final class MastBoundaries extends Check {
     /** A height k is free of push when the reef is above both its strips. */
     private static void leastLine() {
         for (int line : new int[] {29, 30, 31, 32}) {
-            Check.Scene scene = both(windy(1), x -> {
+            Scene scene = both(windy(1), x -> {
                 x.mast(30, 0);
                 x.line(0, line);
             });
@@ -309,7 +309,7 @@ public final class MastBoundaries extends Check {
 
     /** Three sails with 3, 1 and 2 lines: the reefs come as sails 0 1 2, 0 2, 0. */
     private static void leastRounds() {
-        Check.Scene scene = x -> {
+        Scene scene = x -> {
             int[][] lines = {{1, 2, 3}, {3}, {1, 3}};
             for (int s = 0; s < 3; s++) {
                 x.sail(0, 1 << s, 0, 1 << s, 4);
@@ -332,7 +332,7 @@ public final class MastBoundaries extends Check {
     }
 
     private static void leastOfAll() {
-        Check.Scene all = x -> {
+        Scene all = x -> {
             for (int s = 0; s < 10; s++) {
                 x.sail(0, 1, 0, 1, 4);
                 x.cut(s, 20, 1);
@@ -352,7 +352,7 @@ public final class MastBoundaries extends Check {
     }
 
     private static void leastOfWhatIsSet() {
-        Check.Scene scene = x -> {
+        Scene scene = x -> {
             for (int s = 0; s < 3; s++) {
                 x.sail(0, 10, 0, 10, 4);
                 x.cut(s, 20, 1);

@@ -37,7 +37,7 @@ public final class SailBoundaries extends Check {
         due("the 10th again", x.sail(0, 9, 0, 9, 60), 9);
         due("its height", x.told(9, 8), 60);
         due("full again", x.sail(0, 3, 0, 3, 1), -1);
-        Check.Scene taken = both(Lofts::allSails, y -> {
+        Scene taken = both(Lofts::allSails, y -> {
             y.bolt(2, 5, ONE);
             y.cut(0, 2, 1);
             y.plan(0);
@@ -91,9 +91,9 @@ public final class SailBoundaries extends Check {
         noSuch("stand, sail", Lofts::mixed, (x, v) -> bit(x.stand(v, 0, 0, 1)), 2, 0);
         refused("stand where the ROW has ended", Lofts::mixed, (x, v) -> bit(x.stand(1, 1, v, 1)), 0, 3, 6, 7);
         refused("stand where the ROW is missing", Lofts.open(8), (x, v) -> bit(x.stand(0, 0, v, 1)), 0, 0, 8);
-        Check.Scene cut = both(Lofts::mixed, x -> x.cut(1, 20, 1));
+        Scene cut = both(Lofts::mixed, x -> x.cut(1, 20, 1));
         refused("stand of a CUT sail", cut, (x, v) -> bit(x.stand(1, 0, v, 1)), 0, 0, 6);
-        Check.Scene taken = both(cut, x -> {
+        Scene taken = both(cut, x -> {
             x.bolt(20, 200, ONE);
             x.lay(1, 0, 4, 0, 0);
             x.take(1);
@@ -227,14 +227,14 @@ public final class SailBoundaries extends Check {
     private static void edgesThatMeet() {
         int[][] sails = {{10, 10, 0, 10}, {11, 10, 0, 10}, {0, 10, 10, 10}, {0, 10, 11, 10}, {5, 5, 5, 5}, {9, 0, 9, 0}};
         for (int[] s : sails) {
-            Check.Scene scene = x -> x.sail(s[0], s[1], s[2], s[3], 4);
+            Scene scene = x -> x.sail(s[0], s[1], s[2], s[3], 4);
             refused("cut of " + s[0] + " " + s[1] + " " + s[2] + " " + s[3], scene, x -> x.cut(0, 5, 1), -1);
         }
         answers("cut, the foot 1 broad", x -> x.sail(9, 10, 0, 10, 4), x -> x.cut(0, 5, 1), 1);
         answers("cut, the head 1 broad", x -> x.sail(0, 10, 9, 10, 4), x -> x.cut(0, 5, 1), 1);
         for (int y = 0; y <= 4; y++) {
             int h = y;
-            Check.Scene bent = x -> {
+            Scene bent = x -> {
                 x.sail(0, 10, 0, 10, 4);
                 x.edge(0, 0, 5);
                 x.edge(0, 1, 5);
@@ -260,7 +260,7 @@ public final class SailBoundaries extends Check {
         noSuch("narrow, sail", Lofts::mixed, (x, v) -> bit(x.narrow(v, 0, 1)), 2, 0);
         refused("narrow of an OPEN sail", Lofts::mixed, x -> bit(x.narrow(1, 0, 1)), 0);
         refused("narrow of a TAKEN sail", Lofts::mixed, x -> bit(x.narrow(2, 0, 1)), 0);
-        Check.Scene taken = both(Lofts.square(8), x -> {
+        Scene taken = both(Lofts.square(8), x -> {
             x.bolt(5, 20, ONE);
             x.plan(0);
             x.take(0);
@@ -317,13 +317,13 @@ public final class SailBoundaries extends Check {
     private static void fullOfPatches() {
         refused("patch of 40 panels", Lofts::allPanels, x -> x.patch(0, 0, 1, 1), -1);
         refused("a wrong patch of 40 panels", Lofts::allPanels, x -> x.patch(0, 0, 0, 1), -1);
-        Check.Scene nearly = x -> {
+        Scene nearly = x -> {
             x.sail(0, 5, 0, 5, 39);
             x.cut(0, 2, 1);
         };
         answers("patch of 39 panels", nearly, x -> x.patch(0, 0, 1, 1), 39);
         refused("two of 39 panels", both(nearly, x -> x.patch(0, 0, 1, 1)), x -> x.patch(0, 0, 1, 1), -1);
-        Check.Scene patched = both(Lofts.onePanel(1), x -> {
+        Scene patched = both(Lofts.onePanel(1), x -> {
             for (int n = 1; n < 40; n++) {
                 x.patch(0, 0, 1, n);
             }
@@ -366,7 +366,7 @@ public final class SailBoundaries extends Check {
         answers("no area", x -> x.sail(0, 0, 0, 0, 60), x -> x.told(0, 3), 0);
         answers("the least area of a strip", x -> x.sail(0, 1, 0, 1, 1), x -> x.told(0, 3), 2);
         answers("an area below 0", x -> x.sail(1, 0, 1, 0, 1), x -> x.told(0, 3), -2);
-        Check.Scene great = x -> {
+        Scene great = x -> {
             x.sail(-500, 500, -500, 500, 60);
             x.edge(0, 0, 61);
             x.edge(0, 1, 61);
