@@ -430,8 +430,8 @@ public final class SailLoft {
             return false;
         }
         keptActs--;
-        nextAct = (nextAct + MOST_UNDONE - 1) % MOST_UNDONE;
-        Act act = acts[nextAct];
+        nextAct = nextAct > 0 ? nextAct - 1 : MOST_UNDONE - 1;
+        Act act = nextAct < acts.length ? acts[nextAct] : null;
         if (act == null) {
             return false;
         }
@@ -449,7 +449,9 @@ public final class SailLoft {
     }
 
     private void remember(Act act) {
-        acts[nextAct] = act;
+        if (isWithin(nextAct, 0, acts.length - 1)) {
+            acts[nextAct] = act;
+        }
         nextAct = (nextAct + 1) % MOST_UNDONE;
         keptActs = Math.min(keptActs + 1, MOST_UNDONE);
     }
@@ -1082,7 +1084,8 @@ public final class SailLoft {
             if (s.strips == null || lower < 0) {
                 return;
             }
-            for (int y = lower; y < upper && y < s.strips.length && y < forces.length; y++) {
+            int end = Math.min(Math.min(upper, s.strips.length), Math.min(winds.length, forces.length));
+            for (int y = lower; y < end; y++) {
                 forces[y] += (long) sign * s.strips[y] * winds[y];
             }
         }

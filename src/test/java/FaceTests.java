@@ -10,8 +10,9 @@ import java.util.Set;
 import java.util.TreeSet;
 import java.util.regex.Matcher;
 import java.util.regex.Pattern;
+import java.util.stream.Stream;
 
-/** The public face of the document, and those rules of LANGUAGE.md that can be read from the class and its source. */
+/** The public face, those rules of LANGUAGE.md that can be read from the class and its source, and README.md. */
 public final class FaceTests {
     private static final int MOST_LINES_OF_METHOD = 60;
     private static final String[] FACE = {
@@ -118,10 +119,39 @@ public final class FaceTests {
         }
     }
 
+    /** README.md tells every call of the face, every test of the project, and how these are run. */
+    private static void readme(String text, Path tests) throws IOException {
+        for (String call : FACE) {
+            String name = call.substring(call.indexOf(' ') + 1, call.indexOf('('));
+            check(text.contains("`" + name + "`"), "README.md doesn't tell " + name);
+        }
+        try (Stream<Path> files = Files.list(tests)) {
+            files.forEach(file -> {
+                String name = file.getFileName().toString().replace(".java", "");
+                check(text.contains("`" + name + "`"), "README.md doesn't tell the test " + name);
+            });
+        }
+        check(text.contains("`.ci/run`"), "README.md doesn't tell how the tests are run");
+    }
+
+    /** What the example of README.md says in its comments. */
+    private static void example() {
+        SailLoft loft = new SailLoft();
+        int bolt = loft.bolt(10, 50, Float.floatToRawIntBits(1f));
+        int sail = loft.sail(0, 10, 4, 10, 10);
+        check(bolt == 0 && sail == 0, "the example's numbers");
+        check(loft.cut(sail, 5, 1) == 3, "the example's panels");
+        check(loft.plan(0) == SailLoft.NONE, "the example's plan");
+        check(loft.wind(0, 10) && loft.set(sail, true) && loft.push(1) == 200, "the example's push");
+        check(loft.undo() && loft.push(1) == 0, "the example's undo");
+    }
+
     public static void main(String[] args) throws IOException {
         face();
-        Path path = Path.of(System.getProperty("project", "."), "src", "main", "java", "SailLoft.java");
-        source(withoutComments(Files.readString(path)));
+        Path project = Path.of(System.getProperty("project", "."));
+        source(withoutComments(Files.readString(project.resolve("src/main/java/SailLoft.java"))));
+        readme(Files.readString(project.resolve("README.md")), project.resolve("src/test/java"));
+        example();
         System.out.println(wrong == 0 ? "the face is as due" : wrong + " faults");
         if (wrong != 0) {
             System.exit(1);

@@ -713,12 +713,15 @@ public final class ModelTests {
     private final int breadth;
     private final int tall;
     private final int wildness;
+    /** A run at work: it begins with sails that are cut and laid, and takes and lays again and again. */
+    private final boolean atWork;
 
     private ModelTests(long seed) {
         random = new Random(seed);
-        breadth = new int[] {3, 12, 40, 120, 500}[random.nextInt(5)];
-        tall = new int[] {3, 12, 60}[random.nextInt(3)];
-        wildness = random.nextInt(30) == 0 ? 3 : 40;
+        atWork = seed % 3 == 2;
+        breadth = new int[] {3, 12, 40, 120, 500}[random.nextInt(atWork ? 3 : 5)];
+        tall = new int[] {3, 12, 60}[random.nextInt(atWork ? 2 : 3)];
+        wildness = atWork ? 200 : random.nextInt(30) == 0 ? 3 : 40;
         int[] usual = {4, 2, 3, 2, 3, 2, 4, 2, 6, 2, 4, 3, 4, 2, 6, 3, 2, 3, 4, 5, 32};
         for (int n = 0; n < often.length; n++) {
             often[n] = random.nextInt(8) == 0 ? 0 : usual[n] * (1 + random.nextInt(3));
@@ -741,7 +744,20 @@ public final class ModelTests {
     }
 
     private int anySail() {
+        if (atWork && random.nextInt(3) > 0) {
+            return cutSail();
+        }
         return any(0, Math.max(0, m.now.sails.size() - 1));
+    }
+
+    private int cutSail() {
+        int from = random.nextInt(10);
+        for (int n = 0; n < 10; n++) {
+            if (m.s((from + n) % 10, 1) != null) {
+                return (from + n) % 10;
+            }
+        }
+        return 0;
     }
 
     private int anyBolt() {
@@ -781,6 +797,45 @@ public final class ModelTests {
 
     private static long l(boolean b) {
         return b ? 1L : 0L;
+    }
+
+    private boolean workedStep() {
+        int s = cutSail();
+        int worn = random.nextInt(4) == 0 ? any(0, 100) : 100;
+        switch (random.nextInt(6)) {
+            case 0: {
+                int half = 1 + random.nextInt(breadth), h = 1 + random.nextInt(tall);
+                return same("sail " + -half + " " + half + " " + 0 + " " + half + " " + h,
+                        x.sail(-half, half, 0, half, h), m.sail(-half, half, 0, half, h));
+            }
+            case 1: {
+                int last = m.now.sails.size() - 1, w = 8 + random.nextInt(13), seam = 1 + random.nextInt(4);
+                return same("cut " + last + " " + w + " " + seam, x.cut(last, w, seam), m.cut(last, w, seam));
+            }
+            case 2: return same("plan " + worn, x.plan(worn), m.plan(worn));
+            case 3: return same("take " + s, x.take(s), m.take(s));
+            case 4: return same("fewest " + s + " " + worn, x.fewest(s, worn), m.fewest(s, worn));
+            default: {
+                int i = anyPiece(s), b = m.now.bolts.size() - 1 - random.nextInt(4), place = random.nextInt(4);
+                return same("lay " + s + " " + i + " " + b + " " + place + " " + worn,
+                        l(x.lay(s, i, b, place, worn)), l(m.lay(s, i, b, place, worn)));
+            }
+        }
+    }
+
+    private boolean beginWork() {
+        for (int n = 0; n < 3; n++) {
+            int length = 40 + random.nextInt(161), g = anyGrams();
+            if (!same("bolt 20 " + length + " " + g, x.bolt(20, length, g), m.bolt(20, length, g))) {
+                return false;
+            }
+        }
+        for (int n = 0; n < 40; n++) {
+            if (!workedStep()) {
+                return false;
+            }
+        }
+        return true;
     }
 
     private int anyCall() {
@@ -939,8 +994,11 @@ public final class ModelTests {
     }
 
     private boolean run() {
-        for (int n = 0; n < CALLS; n++) {
-            if (!step()) {
+        if (atWork && !beginWork()) {
+            return false;
+        }
+        for (int n = atWork ? 43 : 0; n < CALLS; n++) {
+            if (!(atWork && random.nextInt(4) == 0 ? workedStep() : step())) {
                 return false;
             }
         }
